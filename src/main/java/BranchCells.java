@@ -1,5 +1,3 @@
-import java.util.Arrays;
-
 /** A runner of tasks that branch, each with cells of its own branch, which come together again when one joins another. */
 public final class BranchCells {
     public static final int BAD = -1, NO = -2, FULL = -3, NONE = -4;
@@ -12,7 +10,7 @@ public final class BranchCells {
     /** SEGMENT 0, and two more by each FORK. */
     private static final int SEGMENTS = 79;
     private static final int STEPS_A_CALL = 300, STEPS_A_SCHEDULE = 2000;
-    private static final int ABOUTS = 14, COUNTS = 10;
+    private static final int ABOUTS = 14, ABOUT_OUT = 10, COUNTS = 10;
 
     private static final int MORE = 0, WAITS = 1, ENDED = 2, FAILED = 3, GONE = 4;
 
@@ -35,12 +33,12 @@ public final class BranchCells {
     private static final int DRAW_FACTOR = 1103515245, DRAW_ADDEND = 12345, DRAW_MASK = 0x7fffffff;
     private static final int DRAW_DIVISOR = 65536;
 
+    private final Runner run;
     private final Programs programs;
-    private final Run run;
 
     public BranchCells() {
-        programs = new Programs();
-        run = new Run(programs);
+        run = new Runner();
+        programs = run.programs;
     }
 
     // ---- programs
@@ -125,7 +123,7 @@ public final class BranchCells {
         if (!isCell(cell) || k < KIND_PLAIN || k >= KINDS) {
             return BAD;
         }
-        if (run.begun || k >= KIND_MERGER && programs.mergerAt(k - KIND_MERGER) == null) {
+        if (run.begun || (k >= KIND_MERGER && programs.mergerAt(k - KIND_MERGER) == null)) {
             return NO;
         }
         int before = programs.kinds[cell];
@@ -238,12 +236,12 @@ public final class BranchCells {
 
     public long out(int task, int i) {
         Task t = run.taskAt(task);
-        return t == null || i < 0 || i >= t.toldCount ? 0 : t.told[i];
+        return t == null || i < 0 || i >= t.toldCount || i >= OUTS ? 0 : t.told[i];
     }
 
     public long read(int task, int cell) {
         Task t = run.taskAt(task);
-        return t == null || !isCell(cell) || t.state == GONE ? 0 : run.segments.valueFrom(t.present, cell);
+        return t == null || t.state == GONE ? 0 : run.segments.valueFrom(t.present, cell);
     }
 
     public long mark(int task) {
@@ -262,7 +260,7 @@ public final class BranchCells {
 
     public long version(int segment, int cell) {
         run.findHeld();
-        return run.segments.isHeld(segment) && isCell(cell) ? run.segments.valueIn(segment, cell) : 0;
+        return run.segments.isHeld(segment) ? run.segments.valueIn(segment, cell) : 0;
     }
 
     public int below(int segment) {
@@ -271,21 +269,22 @@ public final class BranchCells {
     }
 
     public int count(int what) {
-        if (what < 0 || what >= COUNTS) {
-            return BAD;
-        }
-        run.findHeld();
         switch (what) {
             case 0: return programs.blocksMade;
             case 1: return programs.mergersMade;
             case 2: return run.tasksMade;
             case 3: return run.openTasks();
-            case 4: return run.segments.heldSegments();
-            case 5: return run.segments.heldVersions();
+            case 4:
+                run.findHeld();
+                return run.segments.heldOnes();
+            case 5:
+                run.findHeld();
+                return run.segments.heldVersions();
             case 6: return run.segments.made;
             case 7: return run.allSteps();
             case 8: return run.mergedCells;
-            default: return run.begun ? 1 : 0;
+            case 9: return run.begun ? 1 : 0;
+            default: return BAD;
         }
     }
 
@@ -310,7 +309,7 @@ public final class BranchCells {
         }
         h = 31 * h + result(task);
         h = 31 * h + mark(task);
-        int told = about(task, 10);
+        int told = about(task, ABOUT_OUT);
         for (int i = 0; i < told; i++) {
             h = 31 * h + out(task, i);
         }
@@ -340,17 +339,21 @@ public final class BranchCells {
             length++;
             return length;
         }
+
+        boolean hasPlace(int place) {
+            return place >= 0 && place < length && place < ops.length && place < numbers.length;
+        }
     }
 
     /** A row of ACTS, and the PILE on which they work. */
     private static final class Merger {
         final Listing acts = new Listing(ACTS);
-        /** Each ACT puts one at most, so as many places as ACTS always do. */
+        /** Each ACT puts one at most, so there are never more than there are ACTS. */
         final long[] pile = new long[ACTS];
 
         boolean leavesOne() {
             int size = 0;
-            for (int i = 0; i < acts.length; i++) {
+            for (int i = 0; i < ACTS && acts.hasPlace(i); i++) {
                 if (acts.ops[i] <= ACT_NUMBER) {
                     size++;
                 } else if (size < 2) {
@@ -362,9 +365,10 @@ public final class BranchCells {
             return size == 1;
         }
 
+        /** What a MERGER that is RIGHT tells. */
         long outcome(long base, long ours, long theirs) {
             int size = 0;
-            for (int i = 0; i < acts.length; i++) {
+            for (int i = 0; i < ACTS && acts.hasPlace(i); i++) {
                 int op = acts.ops[i];
                 if (op > ACT_NUMBER && size >= 2) {
                     size--;
@@ -390,7 +394,7 @@ public final class BranchCells {
         }
     }
 
-    /** What is made between runs: BLOCKS, MERGERS and the KINDS of the CELLS. */
+    /** What is made ahead of runs: BLOCKS, MERGERS and the KINDS of the CELLS. */
     private static final class Programs {
         final Listing[] blocks = new Listing[BLOCKS];
         final Merger[] mergers = new Merger[MERGERS];
@@ -426,24 +430,13 @@ public final class BranchCells {
             }
             return true;
         }
-
-        long merged(int cell, long base, long ours, long theirs) {
-            int kind = kinds[cell];
-            if (kind == KIND_ADDING) {
-                return ours + theirs - base;
-            }
-            if (kind == KIND_BITS) {
-                return (ours | theirs & ~base) & ~(base & ~theirs);
-            }
-            Merger chosen = mergerAt(kind - KIND_MERGER);
-            return chosen == null ? theirs : chosen.outcome(base, ours, theirs);
-        }
     }
 
     /** A row of NUMBERS and HANDLES; a HANDLE is kept as the number of its TASK. */
     private static final class Values {
         final long[] values;
         final boolean[] handles;
+        /** How many there are when the row is a PILE; SLOTS do without it. */
         int size;
 
         Values(int most) {
@@ -451,35 +444,31 @@ public final class BranchCells {
             handles = new boolean[Math.max(most, 0)];
         }
 
-        boolean isFull() {
-            return size >= values.length;
+        boolean hasPlace(int i) {
+            return i >= 0 && i < values.length && i < handles.length;
         }
 
-        void push(long value, boolean handle) {
-            if (!isFull()) {
-                size++;
-                set(size - 1, value, handle);
-            }
+        long valueAt(int i) {
+            return hasPlace(i) ? values[i] : 0;
+        }
+
+        boolean handleAt(int i) {
+            return hasPlace(i) && handles[i];
         }
 
         void set(int i, long value, boolean handle) {
-            if (i >= 0 && i < values.length && i < handles.length) {
+            if (hasPlace(i)) {
                 values[i] = value;
                 handles[i] = handle;
             }
         }
 
-        long valueAt(int i) {
-            return i >= 0 && i < values.length ? values[i] : 0;
-        }
-
-        boolean handleAt(int i) {
-            return i >= 0 && i < handles.length && handles[i];
-        }
-
-        void zero() {
-            Arrays.fill(values, 0);
-            Arrays.fill(handles, false);
+        void empty() {
+            size = 0;
+            for (int i = 0; i < values.length && i < handles.length; i++) {
+                values[i] = 0;
+                handles[i] = false;
+            }
         }
     }
 
@@ -512,19 +501,20 @@ public final class BranchCells {
             return isMade(segment) && held[segment];
         }
 
-        boolean hasVersion(int segment, int cell) {
-            return isMade(segment) && isCell(cell) && (cells[segment] >> cell & 1) == 1;
-        }
-
         long valueIn(int segment, int cell) {
-            return hasVersion(segment, cell) ? values[segment * CELLS + cell] : 0;
+            boolean there = isMade(segment) && isCell(cell) && (cells[segment] >> cell & 1) == 1;
+            return there ? values[segment * CELLS + cell] : 0;
         }
 
+        /** What is READ from a SEGMENT on. */
         long valueFrom(int segment, int cell) {
+            if (!isCell(cell)) {
+                return 0;
+            }
             int s = segment;
             for (int i = 0; i < SEGMENTS && isMade(s); i++) {
-                if (hasVersion(s, cell)) {
-                    return valueIn(s, cell);
+                if ((cells[s] >> cell & 1) == 1) {
+                    return values[s * CELLS + cell];
                 }
                 s = lower[s];
             }
@@ -549,6 +539,13 @@ public final class BranchCells {
             return found;
         }
 
+        void forgetHeldAndPinned() {
+            for (int s = 0; s < SEGMENTS; s++) {
+                held[s] = false;
+                pinned[s] = false;
+            }
+        }
+
         void hold(int segment) {
             int s = segment;
             for (int i = 0; i < SEGMENTS && isMade(s) && !held[s]; i++) {
@@ -563,9 +560,9 @@ public final class BranchCells {
             }
         }
 
-        int heldSegments() {
+        int heldOnes() {
             int found = 0;
-            for (int s = 0; s < made && s < SEGMENTS; s++) {
+            for (int s = 0; s < SEGMENTS && isMade(s); s++) {
                 found += held[s] ? 1 : 0;
             }
             return found;
@@ -573,16 +570,16 @@ public final class BranchCells {
 
         int heldVersions() {
             int found = 0;
-            for (int s = 0; s < made && s < SEGMENTS; s++) {
+            for (int s = 0; s < SEGMENTS && isMade(s); s++) {
                 found += held[s] ? Integer.bitCount(cells[s]) : 0;
             }
             return found;
         }
 
-        /** One round is enough: what is lifted leaves as many HELD ones above every other SEGMENT as there were. */
+        /** One round is enough: what is lifted leaves as many HELD ones directly above every other SEGMENT as there were. */
         int liftAll() {
             int fewer = 0;
-            for (int s = 0; s < made && s < SEGMENTS; s++) {
+            for (int s = 0; s < SEGMENTS && isMade(s); s++) {
                 if (held[s] && !pinned[s]) {
                     fewer += lift(s, onlyOneAbove(s));
                 }
@@ -592,7 +589,7 @@ public final class BranchCells {
 
         private int onlyOneAbove(int segment) {
             int found = NONE;
-            for (int s = 0; s < made && s < SEGMENTS; s++) {
+            for (int s = 0; s < SEGMENTS && isMade(s); s++) {
                 if (held[s] && lower[s] == segment) {
                     if (found != NONE) {
                         return NONE;
@@ -607,15 +604,16 @@ public final class BranchCells {
             if (!isMade(segment) || !isMade(above)) {
                 return 0;
             }
-            int fewer = Integer.bitCount(cells[segment] & cells[above]);
+            int both = cells[segment] & cells[above];
+            int moved = cells[segment] & ~cells[above];
             for (int cell = 0; cell < CELLS; cell++) {
-                if (hasVersion(segment, cell) && !hasVersion(above, cell)) {
-                    write(above, cell, valueIn(segment, cell));
+                if ((moved >> cell & 1) == 1) {
+                    write(above, cell, values[segment * CELLS + cell]);
                 }
             }
             lower[above] = lower[segment];
             held[segment] = false;
-            return fewer;
+            return Integer.bitCount(both);
         }
     }
 
@@ -647,9 +645,9 @@ public final class BranchCells {
         }
 
         void begin(int block, int segment, long x, boolean handle) {
-            slots.zero();
+            slots.empty();
             slots.set(0, x, handle);
-            pile.size = 0;
+            pile.empty();
             toldCount = 0;
             state = MORE;
             failure = 0;
@@ -667,14 +665,14 @@ public final class BranchCells {
             endingIsHandle = false;
         }
 
-        void comeFrom(Task forker, int forkedAbove) {
+        void comeFrom(Task forker, int parted) {
             parent = forker.number;
             forkOfParent = forker.forks;
             depth = forker.depth + 1;
-            root = forkedAbove;
+            root = parted;
         }
 
-        void note(long what) {
+        void trace(long what) {
             trail = 31 * trail + what;
         }
 
@@ -695,31 +693,22 @@ public final class BranchCells {
             state = FAILED;
             failure = why;
         }
-
-        boolean topIsHandle() {
-            return pile.handleAt(pile.size - 1);
-        }
-
-        long take() {
-            if (pile.size <= 0) {
-                return 0;
-            }
-            pile.size--;
-            return pile.valueAt(pile.size);
-        }
     }
 
-    /** The TASKS of a run and what their CODES do. */
-    private static final class Run {
-        final Programs programs;
+    /** The TASKS of a run, who of them is ready, and what their CODES do. */
+    private static final class Runner {
+        final Programs programs = new Programs();
         final Segments segments = new Segments();
         final Task[] tasks = new Task[TASKS];
         int tasksMade;
         int mergedCells;
         boolean begun;
+        /** What the CODE that is being done has taken. */
+        long x;
+        long y;
+        boolean xIsHandle;
 
-        Run(Programs programs) {
-            this.programs = programs;
+        Runner() {
             for (int i = 0; i < TASKS; i++) {
                 tasks[i] = new Task(i);
             }
@@ -735,29 +724,22 @@ public final class BranchCells {
         void begin(long v) {
             clear();
             begun = true;
-            Task first = addTask(0, segments.addAbove(NONE), v, false);
-            if (first != null) {
-                endIfBehindLast(first);
-            }
+            tasksMade = 1;
+            tasks[0].begin(0, segments.addAbove(NONE), v, false);
+            endIfBehindLast(tasks[0]);
         }
 
-        private Task addTask(int block, int segment, long x, boolean handle) {
-            if (tasksMade >= TASKS) {
-                return null;
-            }
-            Task t = tasks[tasksMade];
-            tasksMade++;
-            t.begin(block, segment, x, handle);
-            return t;
+        boolean isTask(long number) {
+            return number >= 0 && number < tasksMade && number < TASKS;
         }
 
         Task taskAt(long number) {
-            return number >= 0 && number < tasksMade && number < TASKS ? tasks[(int) number] : null;
+            return isTask(number) ? tasks[(int) number] : null;
         }
 
         int openTasks() {
             int found = 0;
-            for (int i = 0; i < tasksMade && i < TASKS; i++) {
+            for (int i = 0; i < TASKS && isTask(i); i++) {
                 found += tasks[i].state == MORE ? 1 : 0;
             }
             return found;
@@ -765,15 +747,15 @@ public final class BranchCells {
 
         int allSteps() {
             int sum = 0;
-            for (int i = 0; i < tasksMade && i < TASKS; i++) {
+            for (int i = 0; i < TASKS && isTask(i); i++) {
                 sum += tasks[i].steps;
             }
             return sum;
         }
 
         void findHeld() {
-            Arrays.fill(segments.held, false);
-            for (int i = 0; i < tasksMade && i < TASKS; i++) {
+            segments.forgetHeldAndPinned();
+            for (int i = 0; i < TASKS && isTask(i); i++) {
                 if (tasks[i].state != GONE) {
                     segments.hold(tasks[i].present);
                 }
@@ -781,8 +763,7 @@ public final class BranchCells {
         }
 
         void findPinned() {
-            Arrays.fill(segments.pinned, false);
-            for (int i = 0; i < tasksMade && i < TASKS; i++) {
+            for (int i = 0; i < TASKS && isTask(i); i++) {
                 if (tasks[i].state != GONE) {
                     segments.pin(tasks[i].present);
                     segments.pin(tasks[i].root);
@@ -790,18 +771,17 @@ public final class BranchCells {
             }
         }
 
-        // -- who is ready
-
         /** The number of the TASK for which this one WAITS, or NONE. */
         int awaitedBy(Task t) {
+            int top = t.pile.size - 1;
             Listing block = programs.blockAt(t.blockNumber);
-            if (t.state != MORE || t.steps >= MOST_STEPS || block == null) {
+            if (t.state != MORE || t.steps >= MOST_STEPS || block == null || !block.hasPlace(t.place)) {
                 return NONE;
             }
-            if (t.place < 0 || t.place >= block.length || block.ops[t.place] != JOIN || !t.topIsHandle()) {
+            if (block.ops[t.place] != JOIN || !t.pile.handleAt(top)) {
                 return NONE;
             }
-            Task awaited = taskAt(t.pile.valueAt(t.pile.size - 1));
+            Task awaited = taskAt(t.pile.valueAt(top));
             return awaited == null || awaited.state != MORE ? NONE : awaited.number;
         }
 
@@ -815,85 +795,88 @@ public final class BranchCells {
 
         int readyTasks() {
             int found = 0;
-            for (int i = 0; i < tasksMade && i < TASKS; i++) {
+            for (int i = 0; i < TASKS && isTask(i); i++) {
                 found += isReady(tasks[i]) ? 1 : 0;
             }
             return found;
         }
 
         Task nthReady(int n) {
-            int left = n;
-            for (int i = 0; i < tasksMade && i < TASKS && left >= 0; i++) {
+            int ahead = 0;
+            for (int i = 0; i < TASKS && isTask(i); i++) {
                 if (isReady(tasks[i])) {
-                    if (left == 0) {
+                    if (ahead == n) {
                         return tasks[i];
                     }
-                    left--;
+                    ahead++;
                 }
             }
             return null;
         }
 
         Task lastReady() {
-            for (int i = Math.min(tasksMade, TASKS) - 1; i >= 0; i--) {
-                if (isReady(tasks[i])) {
+            for (int i = TASKS - 1; i >= 0; i--) {
+                if (isTask(i) && isReady(tasks[i])) {
                     return tasks[i];
                 }
             }
             return null;
         }
 
-        // -- what a STEP does
-
+        /** Does the next CODE of a TASK that is ready. */
         void advance(Task t) {
+            int place = t.place;
             Listing block = programs.blockAt(t.blockNumber);
-            if (block == null || t.place < 0 || t.place >= block.length) {
+            if (block == null || !block.hasPlace(place)) {
                 return;
             }
-            int op = block.ops[t.place];
-            int place = t.place;
+            int op = block.ops[place];
             t.steps++;
-            t.note(op);
-            int why = perform(t, op, block.numbers[place]);
-            if (why != 0) {
+            t.trace(op);
+            int why = takeFor(t, op);
+            if (why == 0) {
+                t.place++;
+                why = perform(t, op, block.numbers[place]);
+            }
+            if (why == 0) {
+                endIfBehindLast(t);
+            } else {
                 t.place = place;
                 t.fail(why);
-            } else {
-                endIfBehindLast(t);
             }
         }
 
         private void endIfBehindLast(Task t) {
             Listing block = programs.blockAt(t.blockNumber);
-            if (t.state == MORE && (block == null || t.place >= block.length)) {
+            if (t.state == MORE && (block == null || !block.hasPlace(t.place))) {
                 t.end(0, false);
             }
         }
 
-        /** Does a CODE and answers 0, or by what the TASK FAILS. */
-        private int perform(Task t, int op, int a) {
+        /** Takes what a CODE takes, into x and y; answers 0, or by what the TASK FAILS. */
+        private int takeFor(Task t, int op) {
+            int takes = op >= 0 && op < TAKES.length ? TAKES[op] : 0;
+            Values pile = t.pile;
             if (t.steps > MOST_STEPS) {
                 return TOO_MANY_STEPS;
             }
-            int takes = op >= 0 && op < TAKES.length ? TAKES[op] : 0;
-            if (t.pile.size < takes) {
+            if (pile.size < takes) {
                 return PILE_HAS_TOO_FEW;
             }
-            long y = 0;
             if (takes == 2) {
-                boolean wrong = t.topIsHandle();
-                y = t.take();
-                if (wrong) {
+                pile.size--;
+                y = pile.valueAt(pile.size);
+                if (pile.handleAt(pile.size)) {
                     return WRONG_SORT;
                 }
             }
-            boolean handle = takes > 0 && t.topIsHandle();
-            long x = takes > 0 ? t.take() : 0;
-            if (takes > 0 && !sortSuits(op, handle)) {
-                return WRONG_SORT;
+            if (takes > 0) {
+                pile.size--;
+                x = pile.valueAt(pile.size);
+                xIsHandle = pile.handleAt(pile.size);
+                return sortSuits(op, xIsHandle) ? 0 : WRONG_SORT;
             }
-            t.place++;
-            return takes == 2 ? performOnTwo(t, op, x, y) : performOnOne(t, op, a, x, handle);
+            return 0;
         }
 
         private static boolean sortSuits(int op, boolean handle) {
@@ -910,14 +893,43 @@ public final class BranchCells {
             }
         }
 
-        private int performOnTwo(Task t, int op, long x, long y) {
+        /** Does a CODE with what it has taken; answers 0, or by what the TASK FAILS. */
+        private int perform(Task t, int op, int a) {
             switch (op) {
-                case WRITE_AT:
-                    if (!isCell(x)) {
-                        return NO_SUCH_CELL;
-                    }
-                    segments.write(t.present, (int) x, y);
+                case PUT: return put(t, a, false);
+                case READ: return put(t, segments.valueFrom(t.present, a), false);
+                case READ_AT: return isCell(x) ? put(t, segments.valueFrom(t.present, (int) x), false) : NO_SUCH_CELL;
+                case WRITE: return write(t, a, x);
+                case WRITE_AT: return write(t, x, y);
+                case FROM_SLOT: return putFromSlot(t, a);
+                case FORK: return fork(t, a);
+                case JOIN:
+                    int why = receive(t, taskAt(x));
+                    return why == 0 ? putMerged(t, taskAt(x)) : why;
+                case FAIL: return OWN_FAILURE + (int) (x & OWN_FAILURE_BITS);
+                case GO:
+                    t.place = a;
                     return 0;
+                case GO_IF_ZERO:
+                    t.place = x == 0 ? a : t.place;
+                    return 0;
+                case TO_SLOT:
+                    t.slots.set(a, x, xIsHandle);
+                    return 0;
+                case DROP:
+                    return 0;
+                case TELL:
+                    t.tell(x);
+                    return 0;
+                case END:
+                    t.end(x, xIsHandle);
+                    return 0;
+                default: return putCombined(t, op);
+            }
+        }
+
+        private int putCombined(Task t, int op) {
+            switch (op) {
                 case ADD: return put(t, x + y, false);
                 case SUBTRACT: return put(t, x - y, false);
                 case MULTIPLY: return put(t, x * y, false);
@@ -928,52 +940,12 @@ public final class BranchCells {
             }
         }
 
-        private int performOnOne(Task t, int op, int a, long x, boolean handle) {
-            switch (op) {
-                case PUT: return put(t, a, false);
-                case READ: return put(t, segments.valueFrom(t.present, a), false);
-                case READ_AT: return isCell(x) ? put(t, segments.valueFrom(t.present, (int) x), false) : NO_SUCH_CELL;
-                case FROM_SLOT: return putFromSlot(t, a);
-                case FORK: return fork(t, a, x, handle);
-                case JOIN: return join(t, taskAt(x));
-                case FAIL: return OWN_FAILURE + (int) (x & OWN_FAILURE_BITS);
-                default:
-                    performQuietly(t, op, a, x, handle);
-                    return 0;
-            }
-        }
-
-        /** The CODES that can't FAIL any more once what they take is taken. */
-        private void performQuietly(Task t, int op, int a, long x, boolean handle) {
-            switch (op) {
-                case WRITE:
-                    segments.write(t.present, a, x);
-                    break;
-                case GO:
-                    t.place = a;
-                    break;
-                case GO_IF_ZERO:
-                    t.place = x == 0 ? a : t.place;
-                    break;
-                case TO_SLOT:
-                    t.slots.set(a, x, handle);
-                    break;
-                case TELL:
-                    t.tell(x);
-                    break;
-                case END:
-                    t.end(x, handle);
-                    break;
-                default:
-                    break;
-            }
-        }
-
         private static int put(Task t, long value, boolean handle) {
-            if (t.pile.isFull()) {
+            if (t.pile.size >= PILE) {
                 return PILE_IS_FULL;
             }
-            t.pile.push(value, handle);
+            t.pile.set(t.pile.size, value, handle);
+            t.pile.size++;
             return 0;
         }
 
@@ -986,57 +958,74 @@ public final class BranchCells {
             return why;
         }
 
-        private int fork(Task t, int block, long x, boolean handle) {
+        private int write(Task t, long cell, long value) {
+            if (!isCell(cell)) {
+                return NO_SUCH_CELL;
+            }
+            segments.write(t.present, (int) cell, value);
+            return 0;
+        }
+
+        private int fork(Task t, int block) {
             if (programs.blockAt(block) == null) {
                 return NO_SUCH_BLOCK;
             }
             if (t.depth >= MOST_DEPTH) {
                 return TOO_DEEP;
             }
-            if (t.forks >= MOST_FORKS) {
+            if (t.forks >= MOST_FORKS || tasksMade >= TASKS) {
                 return TOO_MANY_FORKS;
             }
             int parted = t.present;
-            int own = segments.addAbove(parted);
-            Task forked = addTask(block, segments.addAbove(parted), x, handle);
-            if (forked == null) {
-                return TOO_MANY_FORKS;
-            }
-            t.present = own;
+            t.present = segments.addAbove(parted);
             t.forks++;
+            Task forked = tasks[tasksMade];
+            tasksMade++;
+            forked.begin(block, segments.addAbove(parted), x, xIsHandle);
             forked.comeFrom(t, parted);
             endIfBehindLast(forked);
             return put(t, forked.number, true);
         }
 
-        private int join(Task t, Task joined) {
+        /** The JOINED one goes, and its MARK and OUT come to the TASK; answers 0, or by what it FAILED. */
+        private int receive(Task t, Task joined) {
             if (joined == null) {
                 return WRONG_SORT;
             }
-            t.note(joined.trail);
+            t.trace(joined.trail);
             for (int i = 0; i < joined.toldCount && i < OUTS; i++) {
                 t.tell(joined.told[i]);
             }
-            boolean failed = joined.state == FAILED;
             joined.state = GONE;
-            if (failed) {
-                return joined.failure;
-            }
-            mergeCells(t, joined);
-            return put(t, joined.ending, joined.endingIsHandle);
+            return joined.failure;
         }
 
-        private void mergeCells(Task t, Task joined) {
+        private int putMerged(Task t, Task joined) {
+            if (joined == null) {
+                return WRONG_SORT;
+            }
             int cells = segments.cellsBetween(joined.present, joined.root);
             for (int cell = 0; cell < CELLS; cell++) {
                 if ((cells >> cell & 1) == 1) {
                     long base = segments.valueFrom(joined.root, cell);
                     long theirs = segments.valueFrom(joined.present, cell);
                     long ours = segments.valueFrom(t.present, cell);
-                    segments.write(t.present, cell, programs.merged(cell, base, ours, theirs));
+                    segments.write(t.present, cell, merged(programs.kinds[cell], base, ours, theirs));
                     mergedCells++;
                 }
             }
+            return put(t, joined.ending, joined.endingIsHandle);
+        }
+
+        private long merged(int kind, long base, long ours, long theirs) {
+            if (kind == KIND_ADDING) {
+                return ours + theirs - base;
+            }
+            if (kind == KIND_BITS) {
+                return (ours | (theirs & ~base)) & ~(base & ~theirs);
+            }
+            Merger chosen = programs.mergerAt(kind - KIND_MERGER);
+            return chosen == null ? theirs : chosen.outcome(base, ours, theirs);
         }
     }
 }

@@ -774,11 +774,11 @@ public final class BranchCells {
         /** The number of the TASK for which this one WAITS, or NONE. */
         int awaitedBy(Task t) {
             int top = t.pile.size - 1;
-            Listing block = programs.blockAt(t.blockNumber);
-            if (t.state != MORE || t.steps >= MOST_STEPS || block == null || !block.hasPlace(t.place)) {
+            if (t.state != MORE || t.steps >= MOST_STEPS || !t.pile.handleAt(top)) {
                 return NONE;
             }
-            if (block.ops[t.place] != JOIN || !t.pile.handleAt(top)) {
+            Listing block = programs.blockAt(t.blockNumber);
+            if (block == null || !block.hasPlace(t.place) || block.ops[t.place] != JOIN) {
                 return NONE;
             }
             Task awaited = taskAt(t.pile.valueAt(top));

@@ -70,6 +70,33 @@ public final class RunsTest {
         due("9: out(0, 0)", y.out(0, 0), 6);
     }
 
+    /** TASK 0 tells what is in its SLOTS, fills them, a PILE and a CELL, and FAILS: nothing of it is there the next time. */
+    private static void nothingStays() {
+        BranchCells x = started(4, of(FROM, 1, TELL, 0, READ, 3, TELL, 0, FROM, 0, TELL, 0, PUT, 8, WRITE, 3, PUT, 9, TO, 1,
+            PUT, 0, FORK, 1, TO, 2, PUT, 1, PUT, 2, FAIL, 0), of(FROM, 1, TELL, 0, PUT, 7, TO, 1, PUT, 5, 13, 0, PUT, 6, END, 0));
+        for (int run = 0; run < 3; run++) {
+            due("9: about(0, 4)", x.about(0, 4), 0);
+            for (int i = 0; i < 4; i++) {
+                due("9: out(0, " + i + ")", x.out(0, i), 0);
+            }
+            x.step(0, 11);
+            due("9: out(0, 0), SLOT 1", x.out(0, 0), 0);
+            due("9: out(0, 1), CELL 3", x.out(0, 1), 0);
+            due("9: out(0, 2), v", x.out(0, 2), 4);
+            x.step(0, 1);
+            due("9: about(1, 0)", x.about(1, 0), 0);
+            due("9: out(1, 0)", x.out(1, 0), 0);
+            due("9: result(1)", x.result(1), 0);
+            x.step(1, 300);
+            due("9: out(1, 0), SLOT 1", x.out(1, 0), 0);
+            due("9: result(1)", x.result(1), 6);
+            x.step(0, 300);
+            due("9: about(0, 4)", x.about(0, 4), 102);
+            due("9: about(0, 9)", x.about(0, 9), 1);
+            due("9: start(4)", x.start(4), 1);
+        }
+    }
+
     private static void stops() {
         BranchCells x = started(0, of(PUT, 1, FORK, 1, PUT, 1, FORK, 1), of(PUT, 7, TELL, 0));
         x.deep(2000);
@@ -196,7 +223,6 @@ public final class RunsTest {
         int[] second = of(PUT, 2, PUT, 3, ADD, 0, END, 0);
         int[] seeds = {0, 1, 9, 12345, 65536, Integer.MAX_VALUE};
         for (int seed : seeds) {
-            BranchCells x = started(0, first, second);
             BranchCells y = started(0, first, second);
             long s = seed;
             for (int n = 1; n <= 20; n++) {
@@ -208,9 +234,10 @@ public final class RunsTest {
                 if (ready > 0) {
                     y.step(y.ready((int) (s / 65536 % ready)), 1);
                 }
+                BranchCells x = started(0, first, second);
+                due("14: drawn(" + seed + ", " + n + ")", x.drawn(seed, n), y.count(7));
+                due("14: digest() of it", x.digest(), y.digest());
             }
-            due("14: drawn(" + seed + ", 20)", x.drawn(seed, 20), y.count(7));
-            due("14: digest() of it", x.digest(), y.digest());
         }
         BranchCells x = started(0, first, second);
         due("14: drawn(0, 0)", x.drawn(0, 0), BAD);
@@ -401,6 +428,7 @@ public final class RunsTest {
 
     public static void main(String[] args) {
         starts();
+        nothingStays();
         stops();
         steps();
         readies();

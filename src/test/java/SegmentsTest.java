@@ -197,6 +197,29 @@ public final class SegmentsTest {
         due("18: read(0, 1)", x.read(0, 1), 4);
     }
 
+    /** TASK 1 ENDS with the HANDLE of TASK 2 and is JOINED: the ROOT of TASK 2 has one HELD SEGMENT above it, and stays. */
+    private static void keepsRoots() {
+        BranchCells x = new BranchCells();
+        x.kind(1, 1);
+        add(x, of(PUT, 3, WRITE, 1, PUT, 0, FORK, 1, JOIN, 0, JOIN, 0), of(PUT, 5, WRITE, 1, PUT, 0, FORK, 2, END, 0),
+            of(READ, 1, PUT, 10, ADD, 0, WRITE, 1));
+        x.start(0);
+        x.step(0, 300);
+        x.step(1, 300);
+        x.step(2, 2);
+        due("11: step(0, 300)", x.step(0, 300), 1);
+        due("23: count(4): 0, 1, 2, 4", x.count(4), 4);
+        due("20: gather(): 2 is a ROOT, 0 has two above it", x.gather(), 0);
+        due("23: count(4)", x.count(4), 4);
+        due("22: below(4)", x.below(4), 2);
+        x.step(2, 300);
+        due("20: gather(): TASK 2 ENDED, its ROOT stays", x.gather(), 0);
+        x.step(0, 300);
+        due("18: read(0, 1), by the base of the ROOT", x.read(0, 1), 15);
+        due("20: gather(): 0 into 1", x.gather(), 1);
+        due("23: count(4)", x.count(4), 1);
+    }
+
     private static void heldByWhoIsNotJoined() {
         BranchCells x = started(of(PUT, 0, FORK, 1, DROP, 0, PUT, 0, FORK, 1, DROP, 0), of(PUT, 5, WRITE, 5));
         x.deep(2000);
@@ -288,6 +311,7 @@ public final class SegmentsTest {
         versions();
         gathers();
         gathersAboveRoot();
+        keepsRoots();
         heldByWhoIsNotJoined();
         counts();
         digests();

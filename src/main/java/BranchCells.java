@@ -856,27 +856,30 @@ public final class BranchCells {
         /** Takes what a CODE takes, into x and y; answers 0, or by what the TASK FAILS. */
         private int takeFor(Task t, int op) {
             int takes = op >= 0 && op < TAKES.length ? TAKES[op] : 0;
-            Values pile = t.pile;
             if (t.steps > MOST_STEPS) {
                 return TOO_MANY_STEPS;
             }
-            if (pile.size < takes) {
+            if (t.pile.size < takes) {
                 return PILE_HAS_TOO_FEW;
             }
-            if (takes == 2) {
-                pile.size--;
-                y = pile.valueAt(pile.size);
-                if (pile.handleAt(pile.size)) {
-                    return WRONG_SORT;
-                }
-            }
-            if (takes > 0) {
-                pile.size--;
-                x = pile.valueAt(pile.size);
-                xIsHandle = pile.handleAt(pile.size);
-                return sortSuits(op, xIsHandle) ? 0 : WRONG_SORT;
-            }
-            return 0;
+            // both are taken before their SORTS are looked at: what was taken is gone, whichever of them is wrong
+            boolean yIsHandle = takes == 2 && takeY(t.pile);
+            xIsHandle = takes > 0 && takeX(t.pile);
+            return yIsHandle || (takes > 0 && !sortSuits(op, xIsHandle)) ? WRONG_SORT : 0;
+        }
+
+        /** Answers whether it is a HANDLE. */
+        private boolean takeY(Values pile) {
+            pile.size--;
+            y = pile.valueAt(pile.size);
+            return pile.handleAt(pile.size);
+        }
+
+        /** Answers whether it is a HANDLE. */
+        private boolean takeX(Values pile) {
+            pile.size--;
+            x = pile.valueAt(pile.size);
+            return pile.handleAt(pile.size);
         }
 
         private static boolean sortSuits(int op, boolean handle) {

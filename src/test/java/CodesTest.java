@@ -157,9 +157,10 @@ public final class CodesTest {
             failed("code " + op + " of a HANDLE", 2, 3, 1, ran(0, PUT, 8, PUT, 1, FORK, 1, op, 0));
         }
         for (int op = WRITE_AT; op <= OR; op++) {
-            failed("y is a HANDLE, x is not taken, code " + op, 2, 3, 1, ran(0, PUT, 8, PUT, 1, FORK, 1, op, 0));
+            failed("y is a HANDLE, both are gone, code " + op, 2, 3, 0, ran(0, PUT, 8, PUT, 1, FORK, 1, op, 0));
+            failed("y is a HANDLE, one below x stays, code " + op, 2, 4, 1, ran(0, PUT, 7, PUT, 8, PUT, 1, FORK, 1, op, 0));
             failed("x is a HANDLE, code " + op, 2, 3, 0, ran(0, PUT, 1, FORK, 1, PUT, 8, op, 0));
-            failed("both are HANDLES, code " + op, 2, 4, 1, ran(0, PUT, 1, FORK, 1, PUT, 1, FORK, 1, op, 0));
+            failed("both are HANDLES, code " + op, 2, 4, 0, ran(0, PUT, 1, FORK, 1, PUT, 1, FORK, 1, op, 0));
         }
         failed("x / 0 of a HANDLE", 2, 3, 0, ran(0, PUT, 1, FORK, 1, PUT, 0, DIV, 0));
         failed("JOINS a NUMBER", 2, 1, 0, ran(0, PUT, 1, JOIN, 0));

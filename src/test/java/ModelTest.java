@@ -220,7 +220,11 @@ public final class ModelTest {
         }
 
         long number(Job j) throws Failure {
-            if (j.pile.remove(j.pile.size() - 1) instanceof Long n) {
+            return asNumber(j.pile.remove(j.pile.size() - 1));
+        }
+
+        long asNumber(Object what) throws Failure {
+            if (what instanceof Long n) {
                 return n;
             }
             throw new Failure(2);
@@ -250,8 +254,10 @@ public final class ModelTest {
             int next = j.place + 1;
             if (op >= 4 && op <= 11) {
                 need(j, 2);
-                long y = number(j);
-                long x = number(j);
+                Object upper = j.pile.remove(j.pile.size() - 1);
+                Object lower = j.pile.remove(j.pile.size() - 1);
+                long y = asNumber(upper);
+                long x = asNumber(lower);
                 if (op == 4) {
                     j.present.versions.put(cell(x), y);
                 } else {

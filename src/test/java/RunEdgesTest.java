@@ -7,7 +7,7 @@ import java.util.function.Consumer;
 public final class RunEdgesTest {
     private static int wrong = 0;
     private static String words = "";
-    private static final int PUT = 0, WRITE = 2, ADD = 5, GO = 12, GO_ZERO = 13, FROM = 14, TO = 15, DROP = 16;
+    private static final int PUT = 0, READ = 1, WRITE = 2, ADD = 5, GO = 12, GO_ZERO = 13, FROM = 14, TO = 15, DROP = 16;
     private static final int FORK = 17, JOIN = 18, TELL = 19, END = 20, FAIL = 21;
     private static final int BAD = BranchCells.BAD, NO = BranchCells.NO, NONE = BranchCells.NONE;
     private static final int LEAST = Integer.MIN_VALUE, MOST = Integer.MAX_VALUE;
@@ -139,6 +139,41 @@ public final class RunEdgesTest {
         due("about(1, 0)", x.about(1, 0), BAD);
         due("below(1)", x.below(1), BAD);
         due("version(0, 2)", x.version(0, 2), 0);
+    }
+
+    /**
+     * v = 1: TASK 0 FORKS TASKS that fill their SLOTS, PILES, OUTS and CELLS and END with HANDLES; else it FORKS one that
+     * tells what it finds.
+     */
+    private static BranchCells twoWays() {
+        return made(of(FROM, 0, GO_ZERO, 19, PUT, 3, WRITE, 1, PUT, 4, TELL, 0, PUT, 5, TELL, 0, PUT, 6, TO, 6, PUT, 0, FORK, 1, TO, 5,
+            PUT, 0, FORK, 2, JOIN, 0, JOIN, 0, FROM, 5, END, 0, FROM, 5, TELL, 0, FROM, 6, TELL, 0, PUT, 0, FORK, 3, TO, 1, PUT, 0, FORK, 3, TO, 2,
+            FROM, 1, JOIN, 0, FROM, 2, JOIN, 0, READ, 1, TELL, 0),
+            of(PUT, 7, TO, 1, PUT, 8, TELL, 0, PUT, 9, TELL, 0, PUT, 9, WRITE, 1, PUT, 1, FAIL, 0),
+            of(PUT, 7, TO, 1, PUT, 8, TELL, 0, PUT, 9, WRITE, 1, PUT, 5, PUT, 0, FORK, 4, TO, 2, FROM, 2, END, 0),
+            of(FROM, 1, TELL, 0, FROM, 2, TELL, 0, READ, 1, TELL, 0), of(PUT, 8, WRITE, 1, PUT, 5, TO, 1, PUT, 2, TELL, 0, PUT, 6, END, 0));
+    }
+
+    private static void nothingStays() {
+        sentence("(what was run before goes)");
+        for (int done : of(1, 12, 17, 25, 2000)) {
+            for (int way = 0; way <= 1; way++) {
+                BranchCells x = twoWays();
+                x.start(1 - way);
+                x.deep(done);
+                x.start(way);
+                BranchCells fresh = twoWays();
+                fresh.start(way);
+                for (int i = 0; i < 12; i++) {
+                    due("digest() of the next run", x.digest(), fresh.digest());
+                    due("out(0, 0) of the next run", x.out(0, 0), fresh.out(0, 0));
+                    due("out(0, 1) of the next run", x.out(0, 1), fresh.out(0, 1));
+                    due("out(1, 1) of the next run", x.out(1, 1), fresh.out(1, 1));
+                    due("version(0, 1) of the next run", x.version(0, 1), fresh.version(0, 1));
+                    due("drawn(i, 3) of the next run", x.drawn(i, 3), fresh.drawn(i, 3));
+                }
+            }
+        }
     }
 
     private static void stops() {
@@ -323,22 +358,38 @@ public final class RunEdgesTest {
 
     private static void drawWraps() {
         sentence("s becomes s 1103515245 + 12345, of which the lowest 31 bits stay");
+        int[] wide = of(PUT, 0, FORK, 1, PUT, 0, FORK, 1, PUT, 0, FORK, 1, GO, 6);
         for (int seed : of(0, 1, 65535, 65536, 1 << 30, MOST - 1, MOST)) {
-            BranchCells x = four();
-            x.step(0, 11);
-            BranchCells y = four();
-            y.step(0, 11);
+            BranchCells x = started(0, wide, of(GO, 0));
+            x.step(0, 6);
             long s = seed;
-            for (int i = 0; i < 12; i++) {
+            for (int n = 1; n <= 20; n++) {
+                s = Math.floorMod(s * 1103515245L + 12345L, 1L << 31);
+                x.step((int) (s / 65536 % 4), 1);
+                BranchCells y = started(0, wide, of(GO, 0));
+                y.step(0, 6);
+                due("drawn(" + seed + ", " + n + ")", y.drawn(seed, n), n);
+                due("digest() behind drawn(" + seed + ", " + n + ")", y.digest(), x.digest());
+            }
+        }
+    }
+
+    private static void drawsAmongReadyOnes() {
+        sentence("s / 65536, by how many are ready, leaves i: ready(i) does it");
+        for (int seed : of(0, 1, 7, 4711)) {
+            BranchCells x = four();
+            long s = seed;
+            for (int n = 1; n <= 30; n++) {
                 int ready = 0;
                 while (x.ready(ready) != NONE) {
                     ready++;
                 }
                 s = Math.floorMod(s * 1103515245L + 12345L, 1L << 31);
                 x.step(x.ready((int) (s / 65536 % ready)), 1);
+                BranchCells y = four();
+                due("drawn(" + seed + ", " + n + ")", y.drawn(seed, n), n);
+                due("digest() behind drawn(" + seed + ", " + n + ")", y.digest(), x.digest());
             }
-            due("drawn(" + seed + ", 12)", y.drawn(seed, 12), 12);
-            due("digest() behind drawn(" + seed + ", 12)", y.digest(), x.digest());
         }
     }
 
@@ -616,6 +667,7 @@ public final class RunEdgesTest {
         startsWithoutBlock();
         startsWithoutRight();
         startsAnew();
+        nothingStays();
         stops();
         stepNumbers();
         stepAnswers();
@@ -625,6 +677,7 @@ public final class RunEdgesTest {
         full2000();
         drawnNumbers();
         drawWraps();
+        drawsAmongReadyOnes();
         aboutNumbers();
         aboutFirst();
         results();

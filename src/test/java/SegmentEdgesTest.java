@@ -403,6 +403,10 @@ public final class SegmentEdgesTest {
         due("count(8), as without gather()", x.count(8), 2);
         due("read(0, 0)", x.read(0, 0), 4);
         due("read(0, 1)", x.read(0, 1), 3);
+        sentence("the ROOT of none such");
+        due("gather(), 0 was the ROOT of one that is GONE now", x.gather(), 1);
+        due("below(1)", x.below(1), NONE);
+        due("below(0)", x.below(0), BAD);
     }
 
     // ---- promises 21 to 24
@@ -506,7 +510,7 @@ public final class SegmentEdgesTest {
         }
         due("digest(), the first KIND is 1", x.digest(), h + 2 + of0);
         sentence("about(.., 0) to (.., 13), result(), mark(), OUT, read() of CELLS 0 .. 15");
-        x = ran(joined(puts(MOST), of(TELL, 0, PUT, -3, WRITE, 15), puts(LEAST), of(END, 0)));
+        x = ran(joined(puts(MOST), of(TELL, 0, PUT, -3, WRITE, 15), puts(LEAST + 5), of(END, 0)));
         due("digest(), one TASK", x.digest(), digestOf(x));
         BranchCells y = started(of());
         due("digest(), OUT is empty", y.digest(), digestOf(y));

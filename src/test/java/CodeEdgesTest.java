@@ -125,7 +125,7 @@ public final class CodeEdgesTest {
         ends("SLOT 7 is not SLOT 0", 5, ran(5, PUT, 9, TO, 7, FROM, 0, END, 0));
         sentence("0 at first");
         for (int slot = 1; slot <= 7; slot++) {
-            ends("SLOT " + slot, 0, ran(5, FROM, slot, END, 0));
+            ends("SLOT " + slot + ", a NUMBER", 3, ran(5, FROM, slot, PUT, 3, ADD, 0, END, 0));
         }
         sentence("14 puts SLOT a (a HANDLE goes from there: 0 is left)");
         ends("a NUMBER stays", 10, ran(5, FROM, 0, FROM, 0, ADD, 0, END, 0));
